@@ -578,10 +578,6 @@ public final class KinderTowns {
             return isBelow(number, towns);
         }
 
-        private boolean areTwoTowns(int one, int other) {
-            return isTown(one) && isTown(other) && one != other;
-        }
-
         private int addTown() {
             if (!isBelow(towns, MOST_TOWNS)) {
                 return LIMIT_REACHED;
@@ -635,15 +631,13 @@ public final class KinderTowns {
         }
 
         private int letMeet(int one, int other) {
-            if (!areTwoTowns(one, other)) {
-                return INVALID_ARGUMENT;
-            }
             // What the first one hears ahead of the second is what the second knows anyway.
-            return letHear(one, other) + letHear(other, one);
+            int more = letHear(one, other);
+            return more < 0 ? more : more + letHear(other, one);
         }
 
         private int letHear(int one, int other) {
-            if (!areTwoTowns(one, other)) {
+            if (!isTown(one) || !isTown(other) || one == other) {
                 return INVALID_ARGUMENT;
             }
             int more = newsFor(one, known[other]);

@@ -807,6 +807,26 @@ public final class PromiseTest {
         due("refused and passed over", y.thinks(0, 3), 1);
         due("none are left", y.thinks(0, 7), 1);
         due("accepted last", y.thinks(0, 5), 0);
+        lateOrders();
+    }
+
+    /** However late an order is, the pieces and the persons come first by the rules 1 and 2. */
+    private static void lateOrders() {
+        KinderTowns x = country(5);
+        x.deliver(4, 0, 3);
+        x.order(4, 0, 0, 2);
+        x.order(4, 0, 0, 2);
+        for (int event = 3; event < 58; event++) {
+            x.deliver(4, 1, 1);
+        }
+        x.order(4, 9, 0, 1);
+        x.hear(0, 4);
+        x.order(0, 8, 0, 1);
+        dueRow(x, 0, 0, 1, 2, 58, 59);
+        x.rule(1);
+        dueRow(x, 0, 0, 58, 59, 1, 2);
+        x.rule(2);
+        dueRow(x, 0, 0, 1, 58, 59, 2);
     }
 
     private static void apologies() {
@@ -865,6 +885,29 @@ public final class PromiseTest {
         x.undo();
         due("stock", x.goodOf(0, 0, 0), 16 * 17 / 2);
         due("clock", x.townOf(0, 0), 16);
+        otherTimes();
+    }
+
+    /** An event that was undone leaves nothing behind in the states in which another one has its number. */
+    private static void otherTimes() {
+        KinderTowns x = country(2);
+        x.deliver(0, 1, 5);
+        x.order(0, 1, 1, 5);
+        x.cancel(0, 1);
+        x.undo();
+        x.undo();
+        x.undo();
+        x.order(1, 2, 3, 4);
+        x.deliver(1, 3, 9);
+        x.order(1, 3, 3, 6);
+        x.undo();
+        int[] first = {1, 1, 1, 3, 4, 2, NOT_FOUND, 2, 0};
+        int[] second = {0, 1, 2, 3, 9, NOT_FOUND, NOT_FOUND, 2, 0};
+        for (int what = 0; what < 9; what++) {
+            due("eventOf(0, " + what + ") at another time", x.eventOf(0, what), first[what]);
+            due("eventOf(1, " + what + ") at another time", x.eventOf(1, what), second[what]);
+        }
+        due("accepted", x.thinks(1, 0), 0);
     }
 
     private static void errorsChangeNothing() {
