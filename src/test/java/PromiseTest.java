@@ -827,6 +827,16 @@ public final class PromiseTest {
         dueRow(x, 0, 0, 58, 59, 1, 2);
         x.rule(2);
         dueRow(x, 0, 0, 1, 58, 59, 2);
+        KinderTowns y = country(5);
+        y.order(0, 0, 0, 2);
+        y.hear(4, 0);
+        for (int event = 1; event < 59; event++) {
+            y.deliver(4, 1, 1);
+        }
+        y.order(4, 0, 0, 1);
+        due("the highest clock", y.eventOf(59, 2), 60);
+        y.rule(1);
+        dueRow(y, 4, 0, 59, 0);
     }
 
     private static void apologies() {
