@@ -3,7 +3,7 @@ import java.util.Random;
 /** Runs of calls, always the same ones, on KinderTowns and on PlainTowns: all answers are the same. */
 public final class ModelTest {
     private static final int RUNS = 160;
-    private static final int CALLS = 512;
+    private static final int CALLS = Calls.MOST;
     private static final int[] EXTREMES = {Integer.MIN_VALUE, -2147483647, -64, -5, -4, -1, 64, 1 << 16, Integer.MAX_VALUE};
     private static final Due DUE = new Due();
 
@@ -168,36 +168,6 @@ public final class ModelTest {
             return;
         }
         calls++;
-        DUE.is(run + " call " + calls + " " + name + java.util.Arrays.toString(a), real(name, a), plain.call(name, a));
-    }
-
-    private int real(String name, int[] a) {
-        switch (name) {
-            case "town": return real.town();
-            case "deliver": return real.deliver(a[0], a[1], a[2]);
-            case "order": return real.order(a[0], a[1], a[2], a[3]);
-            case "cancel": return real.cancel(a[0], a[1]);
-            case "meet": return real.meet(a[0], a[1]);
-            case "hear": return real.hear(a[0], a[1]);
-            case "rule": return real.rule(a[0]);
-            case "eventOf": return real.eventOf(a[0], a[1]);
-            case "thinks": return real.thinks(a[0], a[1]);
-            case "townOf": return real.townOf(a[0], a[1]);
-            case "goodOf": return real.goodOf(a[0], a[1], a[2]);
-            case "lookedAt": return real.lookedAt(a[0], a[1], a[2]);
-            case "personOf": return real.personOf(a[0], a[1], a[2]);
-            case "unheard": return real.unheard(a[0], a[1]);
-            case "count": return real.count(a[0]);
-            case "would": return real.would(a[0], a[1], a[2]);
-            case "wouldRule": return real.wouldRule(a[0]);
-            case "kindest": return real.kindest(a[0]);
-            case "rounds": return real.rounds();
-            case "undo": return real.undo();
-            case "type": return real.type(a[0]);
-            case "clearText": return real.clearText();
-            case "fault": return real.fault(a[0]);
-            case "play": return real.play();
-            default: throw new IllegalArgumentException(name);
-        }
+        DUE.is(run + " call " + calls + " " + name + java.util.Arrays.toString(a), Calls.on(real, name, a), plain.call(name, a));
     }
 }

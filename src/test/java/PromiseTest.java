@@ -684,8 +684,19 @@ public final class PromiseTest {
         for (int outside : OUTSIDE) {
             due("fault " + outside, x.fault(outside), INVALID);
         }
+        badTexts();
+        textsInAFullCountry();
+    }
+
+    /** A delivery and an order in the first one of two towns. */
+    private static KinderTowns orderInTheFirst() {
+        KinderTowns x = country(2);
         x.deliver(0, 0, 9);
         x.order(0, 0, 0, 9);
+        return x;
+    }
+
+    private static void badTexts() {
         String[] bad = {
             ";", " ", "d", "d0", "d0,0", "d0,0,1", "d0,0,1,", "d0;0,1;", "d0,0,1,1;", "d0,0;", "d,0,1;", "d0,,1;",
             "d0,0,;", "d000,0,1;", "d0,0,001;", "d0,0,100;", "d-1,0,1;", "d0, 0,1;", "D0,0,1;", "o0,0,0;", "o0,0,0,1",
@@ -693,15 +704,16 @@ public final class PromiseTest {
             "d0,0,:;", "r:;", "r1/;", "r1:;",
         };
         for (String text : bad) {
-            dueFault(x, text, 0, 1);
+            dueFault(orderInTheFirst(), text, 0, 1);
         }
         String[] outside = {
             "d2,0,1;", "d0,6,1;", "d0,0,0;", "d0,0,00;", "d99,0,1;", "o2,0,0,1;", "o0,10,0,1;", "o0,0,6,1;", "o0,0,0,0;",
             "c2,1;", "c0,2;", "c0,99;", "m0,2;", "m2,0;", "m1,1;", "h0,0;", "h5,0;", "h0,5;", "r3;", "r99;", "c9,0;",
         };
         for (String text : outside) {
-            dueFault(x, text, 0, 2);
+            dueFault(orderInTheFirst(), text, 0, 2);
         }
+        KinderTowns x = orderInTheFirst();
         dueFault(x, "c0,0;", 0, 3);
         dueFault(x, "c1,1;", 0, 3);
         dueFault(x, "c0,1;c0,1;", 5, 3);
@@ -712,9 +724,13 @@ public final class PromiseTest {
         String[] fine = {"r2;", "r00;", "r02;", "d00,05,99;", "o01,09,00,01;", "m0,1;", "h1,0;", "c0,1;", "h1,0;c1,1;",
             "d0,0,1;o0,1,1,1;c0,3;"};
         for (String text : fine) {
-            dueFault(x, text, NOT_FOUND, NOT_FOUND);
+            dueFault(orderInTheFirst(), text, NOT_FOUND, NOT_FOUND);
         }
         due("nothing happened", x.count(1), 2);
+    }
+
+    private static void textsInAFullCountry() {
+        KinderTowns x = orderInTheFirst();
         for (int event = 2; event < 59; event++) {
             x.deliver(0, 0, 1);
         }
