@@ -423,7 +423,8 @@ public final class EdgesTest {
             "5*town() deliver(4,5,9) order(4,0,5,9) order(4,0,5,1) would(0,4,2)=32 would(0,4,2)=32 would(3,4,2)=32 would(0,3,2)=0",
             "5*town() deliver(4,5,9) order(4,0,5,9) hear(0,4) would(0,4,2)=0 would(3,4,2)=32 would(4,0,2)=0",
             "5*town() deliver(0,0,9) order(0,0,0,9) hear(3,0) hear(4,0) would(4,3,2)=0 would(3,4,2)=0",
-            "5*town() order(0,0,0,9) hear(3,0) hear(4,0) would(4,3,2)=0 would(3,4,2)=0");
+            "5*town() order(0,0,0,9) hear(3,0) hear(4,0) would(4,3,2)=0 would(3,4,2)=0",
+            "5*town() order(4,0,0,9) hear(3,4) would(4,3,2)=0 would(3,4,2)=0");
         doc.says("(also by one that it does not know now, or that would be cancelled)",
             "town() town() order(0,0,3,1) would(0,1,2)=8", "town() town() order(0,0,3,1) hear(1,0) cancel(0,0) would(0,1,2)=8",
             "town() town() deliver(0,3,1) order(0,0,3,1) hear(1,0) cancel(0,1) would(0,1,2)=8 would(1,0,2)=8 would(0,1,0)=0",
@@ -435,7 +436,7 @@ public final class EdgesTest {
         doc.says("`rule`: 0 to 2", range("", "wouldRule(#)", 0, 2));
         doc.says("Tells how many apologies a rule would bring if it was set now.",
             "wouldRule(0)=0 wouldRule(1)=0 wouldRule(2)=0",
-            EIGHT_AND_THREE + " wouldRule(0)=0 wouldRule(1)=2 wouldRule(2)=0 wouldRule(1)=2 wouldRule(0)=0 count(5)=0 count(6)=0 rule(1) count(6)=2 wouldRule(1)=0"
+            EIGHT_AND_THREE + " wouldRule(0)=0 wouldRule(1)=2 wouldRule(2)=0 wouldRule(1)=2 wouldRule(1)=2 count(5)=0 count(6)=0 rule(1) count(6)=2 wouldRule(1)=0"
                 + " wouldRule(0)=2 rule(0) wouldRule(1)=0",
             "town() rule(1) deliver(0,0,6) 3*order(0,1,0,2) rule(2) order(0,2,0,5)=4 wouldRule(0)=0");
         doc.says("INVALID_ARGUMENT if rule is out of range", outside(EIGHT_AND_THREE, "wouldRule(#)", 0, 2));
