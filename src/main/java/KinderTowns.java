@@ -35,14 +35,13 @@ public final class KinderTowns {
     private Country spare;
     private final Country[] history = new Country[MOST_STATES];
     private int states;
-    private final Looking looking = new Looking();
     private final Script script = new Script();
 
     public KinderTowns() {
-        now = new Country(looking);
-        spare = new Country(looking);
+        now = new Country();
+        spare = new Country();
         for (int state = 0; state < MOST_STATES; state++) {
-            history[state] = new Country(looking);
+            history[state] = new Country();
         }
     }
 
@@ -155,6 +154,7 @@ public final class KinderTowns {
         if (!now.isTown(town) || !isBelow(good, GOODS) || index < 0) {
             return INVALID_ARGUMENT;
         }
+        Looking looking = now.looking;
         looking.lookAtGood(now.events, now.events.standingIn(now.known[town]), now.rule, good);
         return isBelow(index, looking.length) ? looking.row[index] : NOT_FOUND;
     }
@@ -227,6 +227,7 @@ public final class KinderTowns {
         if (!isBelow(what, 2)) {
             return INVALID_ARGUMENT;
         }
+        Looking looking = now.looking;
         int kindest = 0;
         int most = -1;
         for (int rule = 0; rule < RULES; rule++) {
@@ -544,7 +545,8 @@ public final class KinderTowns {
 
     /** All that a state of the history holds. */
     private static final class Country {
-        private final Looking looking;
+        // To look with; it holds nothing of the state. Each country has its own, so that nothing is handed out in making one.
+        private final Looking looking = new Looking();
         private final Events events = new Events();
         private int towns;
         private int rule;
@@ -556,10 +558,6 @@ public final class KinderTowns {
         // What the towns knew, and the rule, when they thought last.
         private final long[] thoughtOf = new long[MOST_TOWNS];
         private int thoughtBy;
-
-        private Country(Looking shared) {
-            looking = shared;
-        }
 
         private void copyFrom(Country other) {
             events.copyFrom(other.events);

@@ -74,6 +74,9 @@ public final class LanguageTest {
         DUE.holds(inner + " is static", Modifier.isStatic(inner.getModifiers()));
         DUE.holds(inner + " is not public", (inner.getModifiers() & (Modifier.PUBLIC | Modifier.PROTECTED)) == 0);
         DUE.is(inner + " has classes inside", inner.getDeclaredClasses().length, 0);
+        for (Constructor<?> constructor : inner.getDeclaredConstructors()) {
+            DUE.is(constructor + " is handed nothing", constructor.getParameterCount(), 0);
+        }
         for (Method method : inner.getDeclaredMethods()) {
             DUE.holds(method + " is no public name", !isOfFace(method));
             DUE.holds(method + " takes at most seven", method.getParameterCount() <= 7);
